@@ -653,6 +653,13 @@ public final class PromiseTest {
         due("the first of 31 is not undone", 0, x.at(1, 1, 1));
         due("none is left", NO, x.undo());
         due("steps", 0, x.count(4));
+        for (int k = 0; k < 35; k++) {
+            x.wear(k % 4 == 0 ? 0 : 1, k % 4 == 0 ? 0 : k % 4 - 1, k % 10);
+        }
+        for (int k = 34; k >= 5; k--) {
+            due("the latest 30, each its own", k % 4 == 0 ? 0 : 100 + k % 4 - 1, x.undo());
+        }
+        due("none is left", NO, x.undo());
     }
 
     private static void promise21Count() {
