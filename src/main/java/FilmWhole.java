@@ -323,15 +323,11 @@ public final class FilmWhole {
         return found;
     }
 
-    /** Reads FRAMES told by 16 bits each. */
+    /** Reads FRAMES told by 16 bits each; bits above those of the n FRAMES tell nothing and are not looked at. */
     private static final class Told {
         private static final int BITS = 16;
 
-        // Bits above the n told ones tell nothing that the document names, so such a number is BAD.
         static boolean isTold(int n, long v) {
-            if (n < MOST_TOLD_AT_ONCE && (v >>> (BITS * n)) != 0) {
-                return false;
-            }
             for (int k = 0; k < n; k++) {
                 int bits = bitsOf(n, v, k);
                 if ((bits & 31) != 0 || wearIn(bits) > TOP_WEAR) {

@@ -39,7 +39,6 @@ final class Model {
     int frames(int copy, int n, long v) {
         if (!in(copy, 0, copies.size() - 1) || !in(n, 1, 4)) return BAD;
         String bits = "0".repeat(Long.numberOfLeadingZeros(v)) + (v == 0 ? "" : Long.toBinaryString(v));
-        if (bits.substring(0, 64 - 16 * n).contains("1")) return BAD;
         List<int[]> told = new ArrayList<>();
         for (int at = 64 - 16 * n; at < 64; at += 16) {
             int wear = Integer.parseInt(bits.substring(at + 6, at + 10), 2);

@@ -112,7 +112,7 @@ public final class ModelTest {
     }
 
     private void frames(int copy, int n) {
-        long v = 0;
+        long v = below(4) == 0 ? random.nextLong() : 0;
         for (int k = 0; k < n; k++) {
             v = v << 16 | (mark() & 63) << 10 | (below(20) == 0 ? 10 : below(10)) << 6 | below(2) << 5
                     | (below(30) == 0 ? 1 << below(5) : 0);

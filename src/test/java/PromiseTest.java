@@ -13,6 +13,7 @@ public final class PromiseTest {
         promise2Copy();
         promise3Frame();
         promise4Frames();
+        promise4BitsAbove();
         promise5At();
         promise6Wear();
         promise7Place();
@@ -186,7 +187,6 @@ public final class PromiseTest {
             due("a wear that is none", BAD, x.frames(0, 2, bits(0, wear, 0)));
             due("a wear that is none in the first", BAD, x.frames(0, 2, bits(0, wear, 0) << 16));
         }
-        due("bits above those of n", BAD, x.frames(0, 3, 1L << 58));
         due("none was put", BAD, x.at(0, 5, 0));
         for (int n = 9; n <= 37; n += 4) {
             due("four more", n, x.frames(0, 4, 0));
@@ -196,6 +196,31 @@ public final class PromiseTest {
         due("none of them was put", BAD, x.at(0, 37, 0));
         due("three are not", 40, x.frames(0, 3, 0));
         due("one is too many", FULL, x.frames(0, 1, 0));
+    }
+
+    private static void promise4BitsAbove() {
+        for (int n = 1; n <= 3; n++) {
+            FilmWhole x = new FilmWhole();
+            x.copy();
+            long told = 0;
+            for (int k = 0; k < n; k++) {
+                told = told << 16 | bits(40 + k, 3 + k, 1);
+            }
+            for (int bit = 16 * n; bit < 64; bit++) {
+                FilmWhole one = new FilmWhole();
+                one.copy();
+                due("bit " + bit + " above those of " + n, n, one.frames(0, n, told | 1L << bit));
+            }
+            due("all bits above those of " + n, n, x.frames(0, n, told | -1L << 16 * n));
+            for (int k = 0; k < n; k++) {
+                due("a mark below other bits", 40 + k, x.at(0, k, 0));
+                due("a wear below other bits", 3 + k, x.at(0, k, 1));
+                due("a camera below other bits", 1, x.at(0, k, 2));
+            }
+            due("no more than n are put", BAD, x.at(0, n, 0));
+            due("a low bit below other bits", BAD, x.frames(0, n, -1L << 16 * n | 1));
+            due("a wear that is none below other bits", BAD, x.frames(0, n, -1L << 16 * n | bits(0, 10, 0)));
+        }
     }
 
     private static void promise5At() {
