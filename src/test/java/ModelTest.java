@@ -87,7 +87,7 @@ public final class ModelTest {
             case 18 -> allAbout();
             case 19, 20 -> same("mend(" + i + ")", model.mend(i), film.mend(i));
             case 21 -> note(copy, i, about(0, mostMembers - 1), about(1, 9));
-            case 22 -> same("tint(" + i + ")", model.tint(i), film.tint(i));
+            case 22 -> allTints();
             case 23 -> cue(about(0, 5), about(0, 5), below(4) == 0 ? about(1, 100) : about(1, 3));
             case 24 -> allOrder(about(2, 6));
             default -> undoOrCount();
@@ -161,6 +161,12 @@ public final class ModelTest {
     private void note(int copy, int a, int b, int tint) {
         same("note(" + copy + "," + a + "," + b + "," + tint + ")",
                 model.note(copy, a, b, tint), film.note(copy, a, b, tint));
+    }
+
+    private void allTints() {
+        for (int p = -1; p <= mostMembers; p++) {
+            same("tint(" + p + ")", model.tint(p), film.tint(p));
+        }
     }
 
     private void cue(int a, int b, int weight) {

@@ -1,11 +1,6 @@
 /** Each promise of the document by hand: ordinary inputs, the edges that it names, and wrong inputs. */
-public final class PromiseTest {
-    private static final int BAD = FilmWhole.BAD, NO = FilmWhole.NO, FULL = FilmWhole.FULL, NONE = FilmWhole.NONE;
-    private static final int LOW = Integer.MIN_VALUE, HIGH = Integer.MAX_VALUE;
-    private static final Check CHECK = new Check();
-
-    private static void due(String call, long want, long got) {
-        CHECK.due(call, want, got);
+public final class PromiseTest extends Films {
+    private PromiseTest() {
     }
 
     public static void main(String[] args) {
@@ -38,65 +33,6 @@ public final class PromiseTest {
         promise20Undo();
         promise21Count();
         CHECK.end();
-    }
-
-    /** A film whose COPIES are told as rows of {mark, wear, camera}. */
-    private static FilmWhole film(int[][]... copies) {
-        FilmWhole x = new FilmWhole();
-        for (int[][] told : copies) {
-            int c = x.copy();
-            for (int[] f : told) {
-                x.frame(c, f[0], f[1], f[2]);
-            }
-        }
-        return x;
-    }
-
-    private static FilmWhole marked(int[]... copies) {
-        FilmWhole x = new FilmWhole();
-        for (int[] marks : copies) {
-            int c = x.copy();
-            for (int m : marks) {
-                x.frame(c, m, 0, 0);
-            }
-        }
-        return x;
-    }
-
-    private static int[] row(int... marks) {
-        return marks;
-    }
-
-    private static int[] f(int mark, int wear, int camera) {
-        return new int[] {mark, wear, camera};
-    }
-
-    private static int[][] reel(int[]... frames) {
-        return frames;
-    }
-
-    private static void script(FilmWhole x, int shot, int... marks) {
-        for (int m : marks) {
-            x.place(m, shot);
-        }
-    }
-
-    private static void dueWhole(FilmWhole x, String what, int price, int... sources) {
-        due(what + ": whole(-1)", price, x.whole(-1));
-        for (int i = 0; i < sources.length; i++) {
-            due(what + ": whole(" + i + ")", sources[i], x.whole(i));
-        }
-        due(what + ": whole behind the last", BAD, x.whole(sources.length));
-    }
-
-    private static void dueLine(FilmWhole x, int one, int two, int cost, int... partners) {
-        String what = "line(" + one + ", " + two + ", ";
-        due(what + "-1)", cost, x.line(one, two, -1));
-        for (int i = 0; i < partners.length; i++) {
-            due(what + i + ")", partners[i], x.line(one, two, i));
-        }
-        due(what + "behind the last)", BAD, x.line(one, two, partners.length));
-        due(what + "-2)", BAD, x.line(one, two, -2));
     }
 
     private static void promise1NewObject() {
@@ -151,10 +87,6 @@ public final class PromiseTest {
         due("BAD goes before FULL", BAD, x.frame(0, 64, 0, 0));
         due("the last", 40, x.at(0, 39, 0));
         due("none behind it", BAD, x.at(0, 40, 0));
-    }
-
-    private static long bits(int mark, int wear, int camera) {
-        return (long) mark << 10 | (long) wear << 6 | (long) camera << 5;
     }
 
     private static void promise4Frames() {
