@@ -401,7 +401,7 @@ public final class FilmWhole {
         }
 
         void lineUp(int[] first, int firstSize, int[] second, int secondSize) {
-            fillLeast(first, firstSize, second, secondSize);
+            fillCosts(first, firstSize, second, secondSize);
             int j = 0;
             for (int i = 0; i < firstSize; i++) {
                 while (j < secondSize && !canPair(first, i, second, j) && canLeaveSecond(i, j)) {
@@ -415,7 +415,7 @@ public final class FilmWhole {
             }
         }
 
-        private void fillLeast(int[] first, int firstSize, int[] second, int secondSize) {
+        private void fillCosts(int[] first, int firstSize, int[] second, int secondSize) {
             for (int j = 0; j <= secondSize; j++) {
                 least[firstSize][j] = UNPAIRED_COST * (secondSize - j);
             }
@@ -478,7 +478,7 @@ public final class FilmWhole {
             for (int c = 0; c < MOST_COPIES; c++) {
                 findStanding(c);
             }
-            fillLeast();
+            fillPrices();
             price = 0;
             for (int p = 0; p < script.size; p++) {
                 int ahead = p == 0 ? LOST : chosen[p - 1];
@@ -487,7 +487,7 @@ public final class FilmWhole {
             }
         }
 
-        private void fillLeast() {
+        private void fillPrices() {
             for (int p = script.size - 1; p >= 0; p--) {
                 for (int s = 0; s <= LOST; s++) {
                     least[p][s] = canBe(p, s) ? ownPrice(p, s) + leastBehind(p, s) : NEVER;

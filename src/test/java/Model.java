@@ -5,7 +5,7 @@ import java.util.List;
  * The document's words taken literally: every way is tried and the one that is due is kept.
  * Slow, and for small films alone; it shares no code and no way of working with FilmWhole.
  */
-final class Model {
+class Model {
     static final int BAD = -1, NO = -2, FULL = -3, NONE = -4;
 
     private final List<List<int[]>> copies = new ArrayList<>();
@@ -87,22 +87,35 @@ final class Model {
         return was;
     }
 
+    /** LINING UP: its COST, and for each member of the first row that of the second, or NONE. */
+    record Lines(int cost, int[] partners) {
+    }
+
+    Lines lines(List<int[]> one, List<int[]> two) {
+        Walk walk = new Walk(one, two);
+        walk.on(0, 0, 0);
+        return new Lines(walk.least, walk.best);
+    }
+
+    static int pairCost(int[] member, int[] other) {
+        return Math.min(5, Math.abs(member[0] - other[0]));
+    }
+
     // Tries every lining up, in the order in which the document prefers them; the first of least COST stays.
-    private static final class Lines {
+    private static final class Walk {
         final List<int[]> one;
         final List<int[]> two;
         final int[] partner;
         int least = Integer.MAX_VALUE;
         int[] best;
 
-        Lines(List<int[]> one, List<int[]> two) {
+        Walk(List<int[]> one, List<int[]> two) {
             this.one = one;
             this.two = two;
             partner = new int[one.size()];
-            walk(0, 0, 0);
         }
 
-        private void walk(int i, int j, int cost) {
+        void on(int i, int j, int cost) {
             if (i == one.size() && j == two.size()) {
                 if (cost < least) {
                     least = cost;
@@ -112,12 +125,12 @@ final class Model {
             }
             if (i < one.size() && j < two.size()) {
                 partner[i] = j;
-                walk(i + 1, j + 1, cost + Math.min(5, Math.abs(one.get(i)[0] - two.get(j)[0])));
+                on(i + 1, j + 1, cost + pairCost(one.get(i), two.get(j)));
             }
-            if (j < two.size()) walk(i, j + 1, cost + 3);
+            if (j < two.size()) on(i, j + 1, cost + 3);
             if (i < one.size()) {
                 partner[i] = NONE;
-                walk(i + 1, j, cost + 3);
+                on(i + 1, j, cost + 3);
             }
         }
     }
@@ -129,47 +142,54 @@ final class Model {
     int line(int one, int two, int i) {
         if (!in(one, -1, copies.size() - 1) || !in(two, -1, copies.size() - 1)) return BAD;
         if (!in(i, -1, row(one).size() - 1)) return BAD;
-        Lines lines = new Lines(row(one), row(two));
-        return i == -1 ? lines.least : lines.best[i];
+        Lines lines = lines(row(one), row(two));
+        return i == -1 ? lines.cost : lines.partners[i];
     }
 
     int stands(int copy, int place) {
         if (!in(copy, 0, copies.size() - 1) || !in(place, 0, script.size() - 1)) return BAD;
-        int i = new Lines(script, copies.get(copy)).best[place];
-        if (i == NONE) return NONE;
-        return Math.abs(script.get(place)[0] - copies.get(copy).get(i)[0]) <= rules[0] ? i : NONE;
+        return standing(copy)[place];
     }
 
-    // The frame of each place's source in THE WHOLE, or null; sources and price beside it.
+    private int[] standing(int copy) {
+        int[] frames = lines(script, copies.get(copy)).partners.clone();
+        for (int p = 0; p < frames.length; p++) {
+            if (frames[p] == NONE) continue;
+            int far = Math.abs(script.get(p)[0] - copies.get(copy).get(frames[p])[0]);
+            frames[p] = far <= rules[0] ? frames[p] : NONE;
+        }
+        return frames;
+    }
+
+    // The FRAME of each COPY that STANDS for each PLACE, or NONE.
     private int[][] standing;
+    // THE WHOLE; LOST is copies.size() here, above all.
     private int[] sources;
-    private int price;
 
     private void makeWhole() {
-        int places = script.size();
-        standing = new int[copies.size()][places];
-        for (int c = 0; c < copies.size(); c++) {
-            for (int p = 0; p < places; p++) standing[c][p] = stands(c, p);
-        }
-        price = Integer.MAX_VALUE;
-        tryAll(new int[places], 0);
+        standing = new int[copies.size()][];
+        for (int c = 0; c < copies.size(); c++) standing[c] = standing(c);
+        sources = leastSources(script.size(), copies.size());
     }
 
-    // LOST is copies.size() here, above all; tried from the lowest on, so the first of least PRICE stays.
-    private void tryAll(int[] tried, int p) {
-        if (p == tried.length) {
-            int cost = priceOf(tried);
-            if (cost < price) {
-                price = cost;
-                sources = tried.clone();
-            }
-            return;
-        }
-        for (int s = 0; s <= copies.size(); s++) {
-            if (s < copies.size() && standing[s][p] == NONE) continue;
+    int[] leastSources(int places, int lost) {
+        return leastOf(new int[places], 0, lost, null);
+    }
+
+    // Tried from the lowest on, so the first of least PRICE stays.
+    private int[] leastOf(int[] tried, int p, int lost, int[] best) {
+        if (p == tried.length) return best == null || priceOf(tried) < priceOf(best) ? tried.clone() : best;
+        int[] least = best;
+        for (int s = 0; s <= lost; s++) {
+            if (!canBe(p, s)) continue;
             tried[p] = s;
-            tryAll(tried, p + 1);
+            least = leastOf(tried, p + 1, lost, least);
         }
+        return least;
+    }
+
+    boolean canBe(int p, int source) {
+        return source == copies.size() || standing[source][p] != NONE;
     }
 
     private int[] frameAt(int[] of, int p) {
@@ -180,7 +200,8 @@ final class Model {
         return p > 0 && script.get(p)[1] == script.get(p - 1)[1] && frameAt(of, p) != null && frameAt(of, p - 1) != null;
     }
 
-    private int priceOf(int[] of) {
+    /** The PRICE of SOURCES of as many of the first PLACES as are told. */
+    final int priceOf(int[] of) {
         int sum = 0;
         for (int p = 0; p < of.length; p++) {
             int[] frame = frameAt(of, p);
@@ -194,7 +215,7 @@ final class Model {
     int whole(int i) {
         if (!in(i, -1, script.size() - 1)) return BAD;
         makeWhole();
-        if (i == -1) return price;
+        if (i == -1) return priceOf(sources);
         return sources[i] == copies.size() ? NONE : sources[i];
     }
 

@@ -22,7 +22,7 @@ public final class WildTest {
         check.end();
     }
 
-    private static void fill(FilmWhole film, Random random, int size) {
+    static void fill(FilmWhole film, Random random, int size) {
         for (int c = 0; c < 6; c++) {
             film.copy();
             for (int i = 0; i < size; i++) {
@@ -39,7 +39,7 @@ public final class WildTest {
         return random.nextInt(3) == 0 ? WILD[random.nextInt(WILD.length)] : random.nextInt(8) - 1;
     }
 
-    private static int call(FilmWhole film, int method, Random random) {
+    static int call(FilmWhole film, int method, Random random) {
         int a = wild(random), b = wild(random), c = wild(random), d = wild(random);
         switch (method) {
             case 0: return film.copy();
